@@ -278,8 +278,8 @@ public final class OneBreath {
         }
         slates.lineUp(hour);
         slates.goEarly(0);
-        // A BOUND of b moves all of this slate by -b and what it may reach by b: half of what is lacking is enough.
-        int bound = (Math.max(0, slates.latestBehind()) + 1) / 2;
+        // A BOUND of b starts the slate b earlier and lets it end b later: half of what is lacking is enough.
+        int bound = (slates.latestBehind() + 1) / 2;
         return bound > MOST_LEAST_BOUND ? error(NONE) : bound;
     }
 
@@ -343,7 +343,7 @@ public final class OneBreath {
         int bad = cow.ringsAt(hour) ? trials.clashingSpots(bell, first, last) : 0;
         int all = last - first + 1;
         int common = commonDivisor(all, bad);
-        if (common < 1) {
+        if (common == 0) {
             return part;
         }
         return part == 0 ? bad / common : all / common;
@@ -407,8 +407,7 @@ public final class OneBreath {
         if (!isBell(bell) || act < 0 || act >= Voices.ACTS) {
             return error(BEYOND);
         }
-        voices.begin(now.bells[bell].kind, bell, now.bells[bell].m);
-        return voices.own(act, x, 0);
+        return voices.speak(now.bells[bell], bell, act, x);
     }
 
     public int trace(int i) {
@@ -596,7 +595,7 @@ public final class OneBreath {
     private static int commonDivisor(int one, int other) {
         int a = one;
         int b = other;
-        // Each turn at least halves a within two turns, and both are SPOTS at most.
+        // Euclid's way takes far fewer turns than SPOTS for numbers of SPOTS.
         for (int turn = 0; turn < SPOTS && b != 0; turn++) {
             int rest = a % b;
             a = b;
@@ -1109,7 +1108,8 @@ public final class OneBreath {
 
     /** What reaches which EAR, and when, at an HOUR in a WIND. */
     private static final class Hearing {
-        static final int NO_GAP = Integer.MIN_VALUE;
+        /** Far below each gap that there can be. */
+        static final int NO_GAP = -1000000;
 
         private final Valley valley;
         private final int[][] ways = new int[MOST_BELLS][MOST_EARS];
@@ -1321,9 +1321,9 @@ public final class OneBreath {
             }
         }
 
-        /** The most by which an OFFSET of the slate is above the one that its BELL has. */
+        /** The most by which an OFFSET of the slate is above the one that its BELL has; 0 at least. */
         int latestBehind() {
-            int most = Integer.MIN_VALUE;
+            int most = 0;
             for (int k = 0; k < size; k++) {
                 most = Math.max(most, offsets[order[k]] - valley.bells[order[k]].offset);
             }
@@ -1538,18 +1538,20 @@ public final class OneBreath {
         private int n;
         private int m;
 
-        void begin(int newKind, int newN, int newM) {
+        int speak(Bell bell, int number, int act, int x) {
             begun = 0;
-            kind = newKind;
-            n = newN;
-            m = newM;
+            kind = bell.kind;
+            n = number;
+            m = bell.m;
+            return own(act, x, 0);
         }
 
         /** An act by the BODY of the BELL's own KIND. */
-        int own(int act, int x, int depth) {
+        private int own(int act, int x, int depth) {
             return run(bodyOf(kind, act), x, depth + 1);
         }
 
+        /** super: an act by the BODY of a KIND above that of the BODY that asks. */
         private int above(int bodyKind, int act, int x, int depth) {
             return run(bodyOf(ABOVE[bodyKind], act), x, depth + 1);
         }
