@@ -110,6 +110,16 @@ public final class ClashTest {
         Due.is("18: 5 of 7 at 23", y.quiet(0), 23);
         Due.is("18: with so many", y.quiet(1), 12);
         Due.is("18: as clashes() tells", y.clashes(23, 0), 12);
+        OneBreath still = new OneBreath();
+        still.bell(0, 10, 90);
+        still.bell(601, 10, 90);
+        still.ear(10);
+        Due.is("18: at 1", still.quiet(0), 1);
+        Due.is("18: at 1 again", still.quiet(0), 1);
+        still.bell(0, 10, 90);
+        Due.is("18: one at 1", still.quiet(1), 1);
+        still.bell(400, 10, 90);
+        Due.is("18: one at 1, still", still.quiet(1), 1);
         OneBreath z = new OneBreath();
         Due.is("18: without BELLS", z.quiet(0), 0);
         Due.is("18: none", z.quiet(1), 0);

@@ -96,6 +96,11 @@ public final class TrialTest {
         Due.is("24: later by 12", x.winds(12), 0b11111111011);
         x.set(0, -3);
         Due.is("24: whatever WIND is", x.winds(12), 0b11111111011);
+        x.change(1, 4, 20);
+        Due.is("24: later by 20", x.winds(12), 0b11111111110);
+        x.change(1, 4, -20);
+        Due.is("24: earlier by 20", x.winds(12), 0b01111111111);
+        x.change(1, 4, 12);
         Due.is("24: WIND stays", x.count(3), -3);
         x.change(0, 3, 13);
         Due.is("24: not HEARD against -3", x.winds(12), 2047);
@@ -143,10 +148,40 @@ public final class TrialTest {
         z.change(0, 4, -900);
         z.change(1, 4, -900);
         holdings(z, 0, -31, 0);
+        // Only at one EAR: BELL 0 there at once, BELL 1 behind a WAY of 30 at WIND 0, 20 to 40 in all.
+        OneBreath u = new OneBreath();
+        u.bell(0, 50, 90);
+        u.bell(0, 60, 90);
+        u.ear(50);
+        u.change(0, 4, 25);
+        holdings(u, 0, -9, 0);
+        holdings(u, 1, 9, 0);
+        holdsAtTheEdge();
         int[][] wrong = {{-1, 0, 0}, {3, 0, 0}, {0, -1, 0}, {0, 24, 0}, {0, 0, -1}, {0, 0, 2}, {MAX, MIN, 0}};
         for (int[] w : wrong) {
             Due.refuses("25: holds", ValleyTest::village, Due.BEYOND, o -> o.holds(w[0], w[1], w[2]));
         }
+    }
+
+    /** BELLS 1 to 5 together clash with shifts -299 + 2 * WIND to 305 + 2 * WIND of BELL 0. */
+    private static void holdsAtTheEdge() {
+        OneBreath x = new OneBreath();
+        x.bell(0, 50, 90);
+        int[] offsets = {-240, -118, 3, 124, 245};
+        for (int i = 1; i <= 5; i++) {
+            x.bell(0, 60, 90);
+            x.change(i, 4, offsets[i - 1]);
+        }
+        x.ear(50);
+        x.ear(55);
+        x.ear(60);
+        x.set(1, 30);
+        x.set(2, 300);
+        holdings(x, 0, -299, 6);
+        x.change(1, 4, -239);
+        holdings(x, 0, -300, 5);
+        x.change(1, 4, -240);
+        holdings(x, 0, -299, 6);
     }
 
     private static void holdings(OneBreath x, int bell, int shift, int winds) {
@@ -171,6 +206,11 @@ public final class TrialTest {
         x.change(1, 3, 2);
         chances(x, 1, 3, 11);
         x.change(1, 3, 90);
+        x.change(1, 4, -12);
+        x.set(1, 3);
+        x.change(1, 3, 90);
+        // 12 seconds early: from 3, 4, 5 SPOTS away on both sides.
+        chances(x, 1, 6, 11);
         x.change(1, 6, 1);
         chances(x, 1, 0, 1);
         OneBreath y = new OneBreath();
@@ -271,6 +311,8 @@ public final class TrialTest {
         Due.is("28: no place", y.place(12, 0), Due.NONE);
         Due.text(y, 0, "d<1|l>(60+(d=45)+(d=70))");
         places(y, 45, 61);
+        Due.text(y, 0, "l");
+        places(y, 0, 0);
         int[][] wrong = {{-1, 0}, {24, 0}, {0, -1}, {0, 2}, {MAX, 0}, {0, MIN}};
         for (int[] w : wrong) {
             Due.refuses("28: place", ValleyTest::village, Due.BEYOND, o -> o.place(w[0], w[1]));
