@@ -1226,8 +1226,7 @@ public final class OneBreath {
         boolean isNear(int ear, int second, int butBell) {
             for (int bell = 0; bell < valley.bellCount; bell++) {
                 if (bell != butBell && (heardBits[ear] >> bell & 1) != 0) {
-                    int between = valley.bells[bell].offset + ways[bell][ear] - second;
-                    if (Math.abs(between) <= valley.breath) {
+                    if (Math.abs(secondOf(bell, ear) - second) <= valley.breath) {
                         return true;
                     }
                 }
