@@ -4,8 +4,9 @@ import java.nio.file.Path;
 import java.util.LinkedHashMap;
 import java.util.Map;
 
-/** The sentences of the document, from its Terms to its last promise, and which of them a test has named. */
+/** The sentences of the document, from its first line to its last promise, and which of them a test has named. */
 final class Doc {
+    private static final String WHAT_IT_IS = "what it is: ";
     private static final String TERMS = "terms: ";
     private static final Map<String, Boolean> NAMED = new LinkedHashMap<>();
 
@@ -14,6 +15,10 @@ final class Doc {
 
     static void read() throws IOException {
         String document = Files.readString(Path.of("../shared/DOC.md"));
+        int face = document.indexOf("## The public face");
+        for (String line : document.substring(document.indexOf("## What it is"), face).split("\n")) {
+            split(WHAT_IT_IS, line.startsWith("#") ? "" : line.strip());
+        }
         String part = document.substring(document.indexOf("## Terms"), document.indexOf("## Not promised"));
         String section = TERMS;
         for (String line : part.split("\n")) {
@@ -37,6 +42,11 @@ final class Doc {
 
     private static String section(int promise) {
         return "promise " + promise + ": ";
+    }
+
+    /** What follows tests the sentence ahead of the public face that begins so. */
+    static void opening(String beginning) {
+        name(WHAT_IT_IS + beginning);
     }
 
     /** What follows tests the sentence of the Terms that begins so. */

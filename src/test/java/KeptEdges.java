@@ -23,6 +23,7 @@ final class KeptEdges {
         checkOfAFullValley();
         counts();
         told();
+        wholeLife();
     }
 
     /** BELLS 0 to 6 of KINDS 0 to 6, m 23, 22, .. 17; BELL 7 is a COW of m 0. */
@@ -497,5 +498,26 @@ final class KeptEdges {
             x.restore();
         }
         Due.is("42: many", x.told(2), 101);
+    }
+
+    /** An object in its 512 calls, of which the last answers as any other does. */
+    private static void wholeLife() {
+        Doc.opening("No two bells in one breath");
+        Doc.opening("An object is used for at most 512 calls after it has been made; what later calls answer is free");
+        OneBreath x = new OneBreath();
+        x.bell(0, 20, 60);
+        x.bell(100, 25, 70);
+        x.ear(22);
+        for (int i = 0; i < 101; i++) {
+            Due.is("two in one breath", x.clashes(12, 1), 100);
+            Due.is("a slate becomes so", x.hang(12), 2);
+            Due.is("no two in one breath", x.clashes(12, 1), -1);
+            Due.is("OFFSET of the one", x.change(0, 4, 0), -60);
+            Due.is("OFFSET of the other", x.change(1, 4, 0), -59);
+        }
+        Due.is("the 509th call", x.restore(), Due.NONE);
+        Due.is("the 510th call", x.image(), 1);
+        Due.is("the 511th call", x.told(2), 1);
+        Due.is("the 512th call", x.clashes(12, 1), 100);
     }
 }

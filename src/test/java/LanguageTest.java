@@ -5,6 +5,7 @@ import java.lang.reflect.Method;
 import java.lang.reflect.Modifier;
 import java.nio.file.Files;
 import java.nio.file.Path;
+import java.util.Random;
 import java.util.Set;
 import java.util.TreeSet;
 import java.util.regex.Matcher;
@@ -19,11 +20,16 @@ public final class LanguageTest {
     private LanguageTest() {
     }
 
-    public static void main(String[] args) throws IOException {
+    public static void main(String[] args) throws IOException, ReflectiveOperationException {
         String source = Files.readString(Path.of("src/main/java/OneBreath.java"));
         String bare = source.replaceAll("(?s)/\\*.*?\\*/", "").replaceAll("//[^\n]*", "");
-        face(Files.readString(Path.of("../shared/DOC.md")), bare);
+        String document = Files.readString(Path.of("../shared/DOC.md"));
+        face(document, bare);
+        groups(document, source);
         members();
+        lengths(source);
+        made(bare);
+        neverThrows();
         for (String word : RULED_OUT) {
             Pattern pattern = Pattern.compile(Character.isLetter(word.charAt(0)) ? "\\b" + word + "\\b" : word);
             Due.is("the source has " + word, pattern.matcher(bare).find() ? 1 : 0, 0);
@@ -51,6 +57,77 @@ public final class LanguageTest {
         }
         Due.is("how many lines the face has", due.size(), 42);
         Due.is("the face", got.toString(), due.toString());
+    }
+
+    /** The calls stand in the document's order, each group behind its headline. */
+    private static void groups(String document, String source) {
+        Matcher group = Pattern.compile("Ahead of the calls (.*) the interface says: (---- .*)\\.").matcher(document);
+        int at = 0;
+        int calls = 0;
+        while (group.find()) {
+            int next = source.indexOf("    // " + group.group(2) + "\n", at);
+            Due.is("the headline " + group.group(2), next >= at ? 1 : 0, 1);
+            at = Math.max(at, next);
+            for (String name : group.group(1).replace("`", "").split(", ")) {
+                next = source.indexOf("    public int " + name + "(", at);
+                Due.is(name + " behind its headline", next >= at ? 1 : 0, 1);
+                at = Math.max(at, next);
+                calls++;
+            }
+        }
+        Due.is("calls behind headlines", calls, 41);
+    }
+
+    /** Methods stay short: those of the class and, four blanks deeper, those inside its classes. */
+    private static void lengths(String source) {
+        String name = "";
+        int lines = 0;
+        for (String line : source.split("\n")) {
+            lines++;
+            if (line.matches(" {4}( {4})?[a-zA-Z].*\\) \\{")) {
+                name = line.strip();
+                lines = 1;
+            } else if (line.matches(" {4}( {4})?\\}") && !name.isEmpty()) {
+                Due.is(name + " is too long", lines > 60 ? 1 : 0, 0);
+                name = "";
+            }
+        }
+    }
+
+    /** Objects are made with others that hold them, never by a call. */
+    private static void made(String source) {
+        for (String line : source.split("\n")) {
+            if (line.matches(".*\\bnew\\b.*")) {
+                boolean holds = line.matches(" *(private )?final [^=]* = new .*;") || line.strip().equals("bells[i] = new Bell();");
+                Due.is("made by a call: " + line.strip(), holds ? 1 : 0, 1);
+            }
+        }
+    }
+
+    /** Any arguments in any state, far beyond the 512 calls, too: what is thrown ends this test. */
+    private static void neverThrows() throws ReflectiveOperationException {
+        int[] odd = {Integer.MIN_VALUE, Integer.MIN_VALUE + 1, -1000000001, -901, -900, -6, -1, 0, 1, 2, 3, 4, 5, 6, 7, 8, 9,
+            10, 16, 20, 23, 24, 30, 32, 40, 41, 50, 60, 99, 100, 300, 301, 623, 900, 901, 1 << 16, Integer.MAX_VALUE};
+        Random random = new Random(42);
+        Method[] methods = OneBreath.class.getMethods();
+        int asked = 0;
+        for (int object = 0; object < 20; object++) {
+            OneBreath x = new OneBreath();
+            for (int i = 0; i < 20000; i++) {
+                Method method = methods[random.nextInt(methods.length)];
+                if (method.getDeclaringClass() == OneBreath.class) {
+                    Class<?>[] types = method.getParameterTypes();
+                    Object[] numbers = new Object[types.length];
+                    for (int k = 0; k < types.length; k++) {
+                        int number = random.nextInt(3) == 0 ? odd[random.nextInt(odd.length)] : random.nextInt(10);
+                        numbers[k] = types[k] == long.class ? (Object) random.nextLong() : (Object) number;
+                    }
+                    method.invoke(x, numbers);
+                    asked++;
+                }
+            }
+        }
+        Due.is("calls of any kind were made", asked > 100000 ? 1 : 0, 1);
     }
 
     private static void members() {
